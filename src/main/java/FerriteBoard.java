@@ -1757,7 +1757,7 @@ public final class FerriteBoard {
     Syntax(Text text, Values values) {
       this.text = text;
       this.values = values;
-      for (int i = 0; i < LINES_AT_MOST; i++) lines[i] = new Line();
+      for (int i = 0; i < lines.length; i++) lines[i] = new Line();
     }
 
     Line line(int i) {
