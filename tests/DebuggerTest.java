@@ -95,6 +95,21 @@ public final class DebuggerTest {
     board.nmi();
     board.setWatch(4083, 4083, true, false);
     Check.is("VECTOR of an NMI", board.run(100) + " " + board.stopped(), "5 3");
+    for (int at = 4080; at < 4096; at++) {
+      FerriteBoard nmi = Check.ready("NOP\nNOP");
+      nmi.nmi();
+      nmi.setWatch(at, at, true, false);
+      nmi.run(5);
+      Check.is("of VECTOR 1 alone " + at, nmi.stopped(), at / 2 == 2041 ? 3 : 1);
+      FerriteBoard brk = Check.ready("BRK");
+      brk.setWatch(at, at, true, false);
+      brk.run(6);
+      Check.is("of VECTOR 6 alone " + at, brk.stopped(), at / 2 == 2046 ? 3 : 1);
+    }
+    Check.is("address 0 is read", watched("LDA 0", 0, 0, true, false), 1);
+    Check.is("address 0 is written", watched("STA 0", 0, 0, false, true), 1);
+    Check.is("not written", watched("STA 0", 0, 0, true, false), -1);
+    Check.is("not read", watched("LDA 0", 0, 0, false, true), -1);
     FerriteBoard first = Check.ready("STA 9\nHLT\n");
     first.setWatch(9, 9, false, true);
     first.setBreak(3074, 1);
@@ -211,6 +226,44 @@ public final class DebuggerTest {
     return mixed * 31 + board.timesAt(3072) + board.instructions() * 1000L + board.outputs();
   }
 
+  /** All of PORTS, S, CALLS and the wanted NMI come back: told by what a twin tells that did nothing. */
+  private static void backToPorts() {
+    StringBuilder text = new StringBuilder(".bank 5\n.org 2048\n.byte 55\n.bank 2\n.org 2048\n.byte 22\n.org 3072\n");
+    int[] ports = {0, 1, 6, 7, 9, 10, 11, 12, 13, 8, 3};
+    for (int round = 0; round < 2; round++) {
+      for (int port : ports) text.append("LDA #").append(port == 0 ? 5 - 3 * round : port * 7 + 3 + 8 * round).append("\nSTA 1792+").append(port).append('\n');
+      text.append(round == 0 ? "WAI\nlater: JSR here\nhere: LDA 1796\nPHA\nPHA\n" : "NOP\nHLT\n");
+    }
+    text.append("probe: LDX 1796\nSTX 1795\n");
+    for (int port : new int[] {0, 1, 2, 5, 6, 7, 8, 9, 10, 11, 12, 13, 15}) text.append("LDA 1792+").append(port).append("\nSTA 1795\n");
+    text.append("LDA 2048\nSTA 1795\nTSX\nSTX 1795\nHLT");
+    FerriteBoard[] both = new FerriteBoard[2];
+    for (int i = 0; i < 2; i++) {
+      FerriteBoard board = Check.ready(text.toString());
+      board.key(77);
+      board.key(78);
+      for (int k = 0; k < 22; k++) board.step();
+      int later = board.valueOf(0);
+      board.setRegister(4, later);
+      if (i == 1) {
+        for (int k = 0; k < 28; k++) board.step();
+        Check.is("HALTED", board.state() + " " + board.outputs() + " " + board.calls() + " " + board.inputs(), "2 2 1 1");
+        Check.is("all taken back", board.back(200), 28);
+      }
+      board.setRegister(4, board.valueOf(2));
+      board.run(5000);
+      both[i] = board;
+    }
+    Check.is("outputs of the twins", both[1].outputs() + " " + both[1].calls(), both[0].outputs() + " 0");
+    for (int i = 0; i < both[0].outputs(); i++) Check.is("output " + i, both[1].outputAt(i), both[0].outputAt(i));
+    Check.is("the twins", both[1].digest(), both[0].digest());
+    Check.is("what they told", both[0].outputAt(0) + " " + both[0].outputAt(1) + " " + both[0].outputAt(3) + " " + both[0].outputAt(15), "255 55 94 77");
+    FerriteBoard nmi = Check.ready("NOP\nNOP");
+    nmi.nmi();
+    nmi.step();
+    Check.is("the NMI comes back", nmi.back(1) + " " + nmi.nmi(), "1 true");
+  }
+
   private static void calls() {
     FerriteBoard board = Check.ready("a: BSR a2\nNOP\na2: JSR a\n");
     for (int i = 0; i < 39; i++) board.step();
@@ -246,6 +299,7 @@ public final class DebuggerTest {
     over();
     out();
     backs();
+    backToPorts();
     calls();
     Check.finish();
   }

@@ -75,7 +75,11 @@ public final class InstructionsTest {
     acts("ROL", 128, 3, 0, 0, 3, C | Z, 1);
     acts("ROR", 0, 3, C, 128, 3, N, 1);
     acts("ROR", 1, 3, 0, 0, 3, C | Z, 1);
+    acts("SHL", 1, 3, C, 2, 3, 0, 1);
     acts("SWN", 0x1f, 3, C, 0xf1, 3, C | N, 1);
+    acts("SWN", 0xf0, 3, N, 0x0f, 3, 0, 1);
+    acts("SWN", 0x10, 3, N, 1, 3, 0, 1);
+    acts("SWN", 0, 3, N, 0, 3, Z, 1);
     acts("NEG", 0, 3, C, 0, 3, C | Z, 1);
     acts("NEG", 1, 3, Z, 255, 3, N, 1);
     acts("NOT", 255, 3, N, 0, 3, Z, 1);
@@ -138,6 +142,8 @@ public final class InstructionsTest {
     writes("SHL 9\n.org 9\n.byte 129", 9, 7, 2, 0, 2, C, 4);
     writes("SHR 9\n.org 9\n.byte 129", 9, 7, 2, N, 64, C, 4);
     writes("ROL 9\n.org 9\n.byte 129", 9, 7, 2, C, 3, C, 4);
+    writes("SHL 9\n.org 9\n.byte 1", 9, 7, 2, C | Z | N, 2, 0, 4);
+    writes("SHR 9\n.org 9\n.byte 2", 9, 7, 2, C | Z | N, 1, 0, 4);
     writes("ROR 9\n.org 9\n.byte 2", 9, 7, 2, C, 129, N, 4);
     writes("INC 300,X\n.org 302\n.byte 4", 302, 7, 2, 0, 5, 0, 5);
     writes("INC (9)\n.org 9\n.word 300\n.org 300\n.byte 4", 300, 7, 2, 0, 5, 0, 6);

@@ -24,7 +24,7 @@ public final class OutsideTest {
   }
 
   private static void reset() {
-    FerriteBoard board = Check.ready("LDA #3\nSTA 1792\nSTA 1793\nSTA 1795\nSTA 1798\nSTA 1800\nSTA 1802\nSTA 1806\nLDX 1801\nJSR 9\n.org 4080\n.word 12345");
+    FerriteBoard board = Check.ready("LDA #3\nSTA 1792\nSTA 1793\nSTA 1795\nSTA 1798\nSTA 1800\nSTA 1802\nSTA 1806\nLDX #9\nJSR 9\n.org 4080\n.word 12345");
     board.key(5);
     board.signal();
     for (int i = 0; i < 12; i++) board.step();
@@ -33,7 +33,7 @@ public final class OutsideTest {
     board.run(1);
     board.nmi();
     board.poke(40, 99);
-    Check.is("ahead of it", board.bank() > 0 && board.mask() > 0 && board.outputs() > 0 && board.calls() > 0 && board.hottest() >= 0, true);
+    Check.is("ahead of it", board.a() > 0 && board.x() > 0 && board.s() < 255 && board.bank() > 0 && board.mask() > 0 && board.outputs() > 0 && board.calls() > 0 && board.hottest() >= 0, true);
     Check.is("reset", board.reset(), 12345 % 4096);
     Check.is("registers", registers(board), "0 0 255 4 57 0");
     Check.is("ports", ports(board), "0 0 0 0 0 0");

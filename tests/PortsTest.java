@@ -138,17 +138,14 @@ public final class PortsTest {
   }
 
   private static void readOfFullCount() {
-    // RELOAD 0 and a step of 4 cycles: COUNT is 65536 again as the last cycle ends it
-    FerriteBoard full = Check.ready("LDA #4\nSTA 1798\nLDA #3\nSTA 1800\nLDA 1799\nHLT");
-    full.step();
-    full.step();
-    full.step();
-    full.poke(3074 + 1, 1798 % 256);
-    full.step();
-    Check.is("COUNT is RELOAD again", full.count() + " " + full.pending(), "4 1");
-    full = Check.ready("LDA #4\nSTA 1798\nLDA #3\nSTX 1798\nSTA 1800\nLDA 1799\nHLT");
-    full.run(16);
-    Check.is("65536", full.count(), 65536 - 4);
+    board = new FerriteBoard();
+    write(6, 8);
+    write(8, 3);
+    Check.is("4 cycles are left", board.count(), 4);
+    write(6, 0);
+    Check.is("behind the last of them", board.count() + " " + board.pending(), "65536 1");
+    Check.is("65536 / 256 % 256", read(7) + " " + board.count(), "0 65532");
+    Check.is("read", read(7) + " " + read(6), "255 248");
   }
 
   private static void random() {
@@ -228,8 +225,10 @@ public final class PortsTest {
     board = new FerriteBoard();
     for (int bank = 0; bank < 8; bank++) {
       write(0, bank);
-      does(131, 99, 2500);
-      Check.is("written into bank " + bank, board.byteAt(2500), bank < 4 ? 99 : 0);
+      for (int address : new int[] {2048, 2500, 3071}) {
+        does(131, 99, address);
+        Check.is("written into bank " + bank, board.byteAt(address), bank < 4 ? 99 : 0);
+      }
     }
     does(131, 99, 4000);
     Check.is("ROM", board.byteAt(4000), 0);

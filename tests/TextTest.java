@@ -56,6 +56,8 @@ public final class TextTest {
     good("");
     good("\n\n  \n;\n ; x\n");
     good("abcdefg8: NOP");
+    good("az: JMP az");
+    good("zzz0z: ; z");
     error("abcdefgh9: NOP", 1, 0);
     error(" LDAABCDEF", 1, 1);
     error("LDAABCDE", 2, 0);
@@ -320,6 +322,12 @@ public final class TextTest {
     error(".word -32769", 5, 6);
     bytes(".word -32768,65535,-1,258", 3072, 0, 128, 255, 255, 255, 255, 2, 1);
     error(".fill 0,256", 5, 8);
+    error(".fill 0,-129", 5, 8);
+    bytes(".fill 1,-128", 3072, 128);
+    bytes(".fill 1,255", 3072, 255);
+    bytes(".org 100\nBRA 0", 100, 216, 154);
+    bytes("NOP\n.text \"ab\"\na: .byte a-3072", 3072, 0, 'a', 'b', 3);
+    bytes(".text \"ab\"\n.word 1\n.byte 5,6\nLDA 300\na: .byte a-3072", 3072, 'a', 'b', 1, 0, 5, 6, 35, 44, 1, 9);
     error(".fill 2,b", 4, 8);
     bytes(".fill 3,-2", 3072, 254, 254, 254);
     error("BEQ 4096", 5, 4);
@@ -385,6 +393,12 @@ public final class TextTest {
     Check.refusedBy(board, "valueOf", "IndexOutOfBoundsException", () -> board.valueOf(-1));
     board.poke(4080, 9);
     Check.is("poke leaves the line", board.lineOf(4080), 2);
+    Check.type(board, ".bank 3\n.if 1\nNOP");
+    Check.is("an open .if", board.assemble() + " " + board.errorAt(), "3 17");
+    Check.type(board, ".org 2048\n.byte 7\n");
+    Check.is("begins anew", board.assemble() + " " + board.byteIn(0, 0) + " " + board.byteIn(3, 0), "0 7 0");
+    Check.type(board, ".org 4080\n.byte 7\n");
+    Check.is("again", board.assemble() + " " + board.byteIn(0, 0) + " " + board.lineOf(4080), "0 0 2");
     Check.is("empty text", board.assemble() + " " + board.names() + " " + board.lineOf(4080) + " " + board.byteAt(4080), "0 0 -1 0");
   }
 
