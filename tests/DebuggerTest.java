@@ -236,6 +236,7 @@ public final class DebuggerTest {
     }
     text.append("probe: LDX 1796\nSTX 1795\n");
     for (int port : new int[] {0, 1, 2, 5, 6, 7, 8, 9, 10, 11, 12, 13, 15}) text.append("LDA 1792+").append(port).append("\nSTA 1795\n");
+    text.append("LDA #0\nSTA 1800\nLDA #1\nSTA 1800\nLDA 1798\nSTA 1795\nLDA 1799\nSTA 1795\n");
     text.append("LDA 2048\nSTA 1795\nTSX\nSTX 1795\nHLT");
     FerriteBoard[] both = new FerriteBoard[2];
     for (int i = 0; i < 2; i++) {
@@ -257,7 +258,8 @@ public final class DebuggerTest {
     Check.is("outputs of the twins", both[1].outputs() + " " + both[1].calls(), both[0].outputs() + " 0");
     for (int i = 0; i < both[0].outputs(); i++) Check.is("output " + i, both[1].outputAt(i), both[0].outputAt(i));
     Check.is("the twins", both[1].digest(), both[0].digest());
-    Check.is("what they told", both[0].outputAt(0) + " " + both[0].outputAt(1) + " " + both[0].outputAt(3) + " " + both[0].outputAt(15), "255 55 94 77");
+    Check.is("what they told", both[0].outputAt(0) + " " + both[0].outputAt(1) + " " + both[0].outputAt(5) + " " + both[0].outputAt(17), "255 55 94 77");
+    Check.is("RELOAD", both[0].outputAt(2) * 256 + both[0].outputAt(3), 52 * 256 + 45 - 4);
     FerriteBoard nmi = Check.ready("NOP\nNOP");
     nmi.nmi();
     nmi.step();

@@ -43,13 +43,18 @@ public final class OutsideTest {
     Check.is("memory stays", board.byteAt(40) + " " + board.byteAt(4080), "99 57");
     Check.is("no NMI", board.nmi(), false);
     // FROM, TO, RELOAD and RANDOM as well
-    board = Check.assembled("LDA 1802\nSTA 1795\nLDA 1804\nSTA 1795\nLDA #1\nSTA 1800\nLDA 1801\nSTA 1795\nHLT\n.org 4080\n.word 3072");
+    StringBuilder set = new StringBuilder("\nset: ");
+    for (int port = 6; port < 14; port++) set.append("LDA #3\nSTA 1792+").append(port).append('\n');
+    board = Check.assembled("LDA 1802\nSTA 1795\nLDA 1804\nSTA 1795\nLDA #1\nSTA 1800\nLDA 1801\nSTA 1795\nLDA 1803\nSTA 1795\nLDA 1805\n"
+        + "STA 1795\nHLT" + set + "HLT\n.org 4080\n.word 3072");
+    board.setRegister(4, board.valueOf(0));
     board.run(5000);
+    Check.is("all is set", board.state() + " " + (board.count() > 0), "2 true");
     board.reset();
     board.run(22);
     Check.is("COUNT becomes 65536", board.count(), 65536 - 4);
     board.run(5000);
-    Check.is("RANDOM is 1 at first", board.outputAt(0) + " " + board.outputAt(1) + " " + board.outputAt(2), "0 0 0");
+    for (int i = 0; i < 5; i++) Check.is("RANDOM is 1 at first, FROM and TO are 0", board.outputAt(i), 0);
   }
 
   private static void keys() {

@@ -45,6 +45,15 @@ public final class PortsTest {
     }
     Check.is("the others are read as 0", read(16) + " " + read(255) + " " + read(14), "0 0 0");
     for (int port = 10; port < 14; port++) write(port, port * 11);
+    write(10, 0);
+    write(12, 255);
+    Check.is("the other one stays", read(10) + " " + read(11) + " " + read(12) + " " + read(13), "0 121 255 143");
+    write(11, 1);
+    write(13, 255);
+    write(10, 7);
+    write(12, 0);
+    Check.is("the other one stays", read(10) + " " + read(11) + " " + read(12) + " " + read(13), "7 1 0 255");
+    for (int port = 10; port < 14; port++) write(port, port * 11);
     Check.is("FROM and TO", read(10) + " " + read(11) + " " + read(12) + " " + read(13), "110 121 132 143");
     Check.is("nothing is done by byteAt", board.byteAt(1794) + " " + board.byteAt(1802), "0 0");
   }

@@ -67,6 +67,11 @@ public final class TextTest {
     bytes(".word $ffff,$a,$0b", 3072, 255, 255, 10, 0, 11);
     error(".word $", 1, 6);
     error(".word $12345", 1, 6);
+    error(".word $00001", 1, 6);
+    good(".word $0001");
+    error("a = 1>>", 1, 7);
+    error("a = 1>", 1, 5);
+    error("a = <", 1, 5);
     error(".word $fg", 1, 8);
     error(".word $F", 1, 6);
     error(".byte 1a", 1, 7);
@@ -158,9 +163,12 @@ public final class TextTest {
     good("a = " + times("(-", 4) + "1" + times(")", 4) + "+(-1)");
     good("LDA " + times("(", 8) + "1" + times(")", 8));
     error("LDA " + times("(", 9) + "1" + times(")", 9), 1, 12);
-    error("LDA #" + times("<", 0) + times("- ", 9) + "1", 1, 21);
+    error("LDA #" + times("- ", 9) + "1", 1, 21);
     good("LDA #" + times("(", 8) + "1" + times(")", 8));
     good(".byte " + times("(", 8) + "1" + times(")", 8) + "," + times("-", 8) + "1");
+    good(".fill " + times("(", 8) + "1" + times(")", 8) + "," + times("-", 8) + "1");
+    error(".fill 1," + times("-", 9) + "1", 1, 16);
+    error(".word 1," + times("~", 9) + "1", 1, 16);
   }
 
   private static void manyLines() {
