@@ -52,6 +52,20 @@ public final class TextTest {
     Check.is("bytes in order", board.valueOf(0) + " " + board.valueOf(1), "1 9");
   }
 
+  /** What was trimmed away is not looked at, though it may stand there still. */
+  private static void trimmed() {
+    String text = "abc: LDA #$12>>2 ; x\n.text \"ab\"\n.byte 'x, 12<<345, <-abc\n.org 1234\n";
+    for (int k = 0; k <= text.length(); k++) {
+      FerriteBoard trimmed = new FerriteBoard();
+      FerriteBoard typed = new FerriteBoard();
+      Check.type(trimmed, text);
+      trimmed.trim(k);
+      if (k > 0) Check.type(typed, text.substring(0, k));
+      String due = typed.assemble() + " " + typed.errorAt() + " " + typed.names();
+      Check.is("trimmed to " + k, trimmed.assemble() + " " + trimmed.errorAt() + " " + trimmed.names(), due);
+    }
+  }
+
   private static void tokens() {
     good("");
     good("\n\n  \n;\n ; x\n");
@@ -430,6 +444,7 @@ public final class TextTest {
 
   public static void main(String[] args) {
     tape();
+    trimmed();
     tokens();
     forms();
     nesting();
