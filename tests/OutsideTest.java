@@ -15,8 +15,8 @@ public final class OutsideTest {
     Check.is("counts", board.cycles() + " " + board.instructions() + " " + board.hottest() + " " + board.calls(), "0 0 -1 0");
     Check.is("text", board.names() + " " + board.errorAt() + " " + board.trim(0), "0 -1 0");
     Check.is("debugger", board.stopped() + " " + board.history() + " " + board.clearWatches(), "0 0 0");
-    for (int i = 0; i < 4096; i++) Check.is("memory", board.byteAt(i) + board.lineOf(i), -1);
-    for (int b = 0; b < 8; b++) for (int i = 0; i < 1024; i += 31) Check.is("bank", board.byteIn(b, i), 0);
+    for (int i = 0; i < 4096; i += 39) Check.is("memory", board.byteAt(i) + board.lineOf(i), -1);
+    for (int b = 0; b < 8; b++) for (int i = 0; i < 1024; i += 93) Check.is("bank", board.byteIn(b, i), 0);
     for (int i = 0; i < 4096; i += 100) Check.is("break", board.clearBreak(i), -1);
     Check.is("nmi", board.nmi(), false);
     Check.is("mean", board.meanCycles(), 0.0);

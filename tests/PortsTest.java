@@ -84,16 +84,14 @@ public final class PortsTest {
   private static void output() {
     board = new FerriteBoard();
     Check.refusedBy(board, "outputAt", "IndexOutOfBoundsException", () -> board.outputAt(0));
-    for (int i = 0; i < 50; i++) {
-      write(3, i * 5 % 256);
-      Check.is("outputs", board.outputs() + " " + board.outputAt(0), i + 1 + " " + i * 5 % 256);
-      int most = i;
-      if (i < 40) Check.refused("outputAt", "IndexOutOfBoundsException", () -> board.outputAt(most + 1));
+    for (int i = 0; i < 41; i++) {
+      write(3, i * 7 % 256);
+      Check.is("outputs", board.outputs() + " " + board.outputAt(0), i + 1 + " " + i * 7 % 256);
     }
-    for (int i = 0; i < 40; i++) Check.is("outputAt " + i, board.outputAt(i), (49 - i) * 5 % 256);
+    for (int i = 0; i < 40; i++) Check.is("outputAt " + i, board.outputAt(i), (40 - i) * 7 % 256);
     Check.refusedBy(board, "outputAt", "IndexOutOfBoundsException", () -> board.outputAt(40));
     Check.refusedBy(board, "outputAt", "IndexOutOfBoundsException", () -> board.outputAt(-1));
-    Check.is("read", read(3) + " " + board.outputs(), "50 50");
+    Check.is("read", read(3) + " " + board.outputs(), "41 41");
     FerriteBoard many = Check.ready("a: STA 1795\nBRA a");
     many.run(5000);
     Check.is("outputs of 7 cycles each", many.outputs(), 715);
@@ -214,6 +212,8 @@ public final class PortsTest {
     from(65535, 50);
     write(14, 2);
     Check.is("65535 is 4095", board.byteAt(50) + " " + board.byteAt(51), "66 1");
+    board = new FerriteBoard();
+    board.poke(109, 10);
     for (int bank = 0; bank < 8; bank++) {
       write(0, bank);
       from(109, 2049);

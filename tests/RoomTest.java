@@ -8,7 +8,7 @@ public final class RoomTest {
   }
 
   private static void calls(FerriteBoard board) {
-    for (int i = 0; i < 30; i++) {
+    for (int i = 0; i < 15; i++) {
       board.feed(0x4c444123, 0x350a2020, 0x494e5820, 0x0a535458, 0x20393b0a);
       board.run(5000);
       board.stepOver();
@@ -44,8 +44,8 @@ public final class RoomTest {
 
   /** A full tape of each byte, and of each short row: no call may fail. */
   private static void tapes() {
-    FerriteBoard board = new FerriteBoard();
     for (int b = 0; b < 256; b++) {
+      FerriteBoard board = new FerriteBoard();
       int four = b << 24 | b << 16 | b << 8 | b;
       for (int i = 0; i < 100; i++) board.feed(four, four, four, four, four);
       int error = board.assemble();
@@ -56,15 +56,22 @@ public final class RoomTest {
     for (String row : rows) {
       for (String head : new String[] {"", "a = ", ".byte ", "LDA ", "LDA #", "LDA ("}) {
         String text = head + row.repeat((2000 - head.length()) / row.length());
+        FerriteBoard board = new FerriteBoard();
         Check.type(board, text);
         int error = board.assemble();
         Check.is("a tape of " + head + row, error > 0 && board.errorAt() >= 0 && board.errorAt() <= text.length(), true);
       }
     }
+    longest();
+  }
+
+  private static void longest() {
+    FerriteBoard board = new FerriteBoard();
     Check.type(board, ".byte " + "1,".repeat(996) + "1");
     Check.is("many values", board.assemble() + " " + board.byteAt(3072 + 996), "0 1");
     Check.type(board, ".org 0\n.word " + "1,".repeat(850) + "1");
     Check.is("many words", board.assemble() + " " + board.byteAt(1700), "0 1");
+    board = new FerriteBoard();
     Check.type(board, ".word " + "1,".repeat(996) + "1");
     Check.is("too many words", board.assemble() + " " + board.errorAt(), "6 0");
     Check.type(board, ".byte 1" + "+1".repeat(996));

@@ -1,6 +1,6 @@
 import java.util.Random;
 
-/** Promises 51 to 58: what would be, which bytes are code, the mean and the checksum. */
+/** Promises 51 to 57: what would be, which bytes are code, and the mean (the checksum is in EdgesCallsTest). */
 public final class WouldBeTest {
   private static void toHalt() {
     FerriteBoard board = Check.ready("NOP\nINX\nHLT\n");
@@ -15,13 +15,19 @@ public final class WouldBeTest {
     broken.setWatch(0, 4095, true, true);
     Check.is("breaks do not count", broken.cyclesToHalt(2), 2);
     Check.is("never", Check.ready("a: BRA a").cyclesToHalt(5000), -1);
+    refused(board);
+  }
+
+  private static void refused(FerriteBoard ended) {
     for (int bad : new int[] {0, -1, 5001, Integer.MIN_VALUE, Integer.MAX_VALUE}) {
+      FerriteBoard board = bad > 0 ? ended : new FerriteBoard();
       Check.refusedBy(board, "cyclesToHalt", "IllegalArgumentException", () -> board.cyclesToHalt(bad));
       Check.refusedBy(board, "cyclesToReach", "IllegalArgumentException", () -> board.cyclesToReach(5, bad));
       Check.refusedBy(board, "outputsIn", "IllegalArgumentException", () -> board.outputsIn(bad));
       Check.refusedBy(board, "writesIn", "IllegalArgumentException", () -> board.writesIn(5, bad));
     }
     for (int bad : new int[] {4096, -1, Integer.MIN_VALUE}) {
+      FerriteBoard board = new FerriteBoard();
       Check.refusedBy(board, "cyclesToReach", "IllegalArgumentException", () -> board.cyclesToReach(bad, 5));
       Check.refusedBy(board, "writesIn", "IllegalArgumentException", () -> board.writesIn(bad, 5));
       Check.refusedBy(board, "isCode", "IllegalArgumentException", () -> board.isCode(bad));
@@ -135,37 +141,6 @@ public final class WouldBeTest {
     Check.is("with BANK 1", bank.codes() + " " + bank.isCode(2049) + " " + bank.isCode(2050), "4 true false");
   }
 
-  private static long digestOf(FerriteBoard board) {
-    long d = 58008;
-    int[] first = {board.a(), board.x(), board.s(), board.flags(), board.pc(), board.state(), board.cycles(), board.instructions(), board.bank(),
-        board.mask(), board.pending(), board.count(), board.inputs(), board.outputs(), board.stopped(), board.history(), board.calls()};
-    for (int n : first) d = d * 31 + n;
-    for (int i = 0; i < board.calls(); i++) d = d * 31 + board.callAt(i);
-    d = d * 31 + board.names();
-    for (int i = 0; i < board.names(); i++) d = d * 31 + board.valueOf(i);
-    d = d * 31 + board.hottest();
-    d = d * 31 + board.codes();
-    for (int i = 0; i < 1792; i++) d = d * 31 + board.byteAt(i);
-    for (int b = 0; b < 8; b++) for (int i = 0; i < 1024; i++) d = d * 31 + board.byteIn(b, i);
-    for (int i = 3072; i < 4096; i++) d = d * 31 + board.byteAt(i);
-    for (int i = 0; i < 40 && i < board.outputs(); i++) d = d * 31 + board.outputAt(i);
-    return d;
-  }
-
-  private static void digests() {
-    FerriteBoard board = new FerriteBoard();
-    Check.is("digest of a new one", board.digest(), digestOf(board));
-    Programs programs = new Programs(new Random(5));
-    for (int i = 0; i < 40; i++) {
-      Check.type(board, programs.program());
-      board.assemble();
-      board.key(i);
-      board.run(100 * i + 1);
-      Check.is("digest " + i, board.digest(), digestOf(board));
-      Check.is("digest again " + i, board.digest(), digestOf(board));
-    }
-  }
-
   private static void mean() {
     FerriteBoard board = Check.ready("NOP\nLDA 300\nNOP\nHLT");
     Check.is("without instructions", board.meanCycles(), 0.0);
@@ -191,7 +166,6 @@ public final class WouldBeTest {
     outputsAndWrites();
     comesTrue();
     codes();
-    digests();
     mean();
     Check.finish();
   }

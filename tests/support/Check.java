@@ -41,7 +41,7 @@ final class Check {
     StringBuilder all = new StringBuilder();
     all.append(board.digest()).append(' ').append(board.errorAt()).append(' ').append(board.history());
     all.append(' ').append(board.stopped()).append(' ').append(board.hottest());
-    for (int i = 0; i < 4096; i += 7) all.append(' ').append(board.lineOf(i));
+    for (int i : new int[] {0, 5, 2048, 3072, 3079, 4080, 4095}) all.append(' ').append(board.lineOf(i));
     return all.toString();
   }
 

@@ -1520,7 +1520,7 @@ public final class FerriteBoard {
 
     private int readText(int start) {
       int end = start + 1;
-      while (isLetterOfText(end) && at(tape, end) != '"') end++;
+      while (end < length && isLetterOfText(end) && at(tape, end) != '"') end++;
       boolean closed = end < length && at(tape, end) == '"';
       int letters = end - start - 1;
       add(closed && letters <= 40 ? TEXT : BAD, start, letters);
