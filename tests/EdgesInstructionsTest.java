@@ -265,6 +265,24 @@ public final class EdgesInstructionsTest {
     }
   }
 
+  /** What an instruction pushes over its own bytes changes nothing of where it goes. */
+  private static void instructionsOnTheStack() {
+    FerriteBoard jsr = Bench.at(509, Bench.JSR + 3, 188, 2);
+    jsr.step();
+    Check.is("JSR at 509", Bench.all(jsr.pc(), jsr.byteAt(511), jsr.byteAt(510), jsr.s()), "700 2 0 253");
+    FerriteBoard bsr = Bench.at(510, Bench.BSR, 20);
+    bsr.step();
+    Check.is("BSR at 510", Bench.all(bsr.pc(), bsr.byteAt(511), bsr.byteAt(510), bsr.s()), "532 2 0 253");
+    FerriteBoard brk = Bench.at(511, Bench.BRK);
+    Bench.vector(brk, 6, 700);
+    brk.step();
+    Check.is("BRK at 511", Bench.all(brk.pc(), brk.byteAt(511), brk.byteAt(510), brk.byteAt(509)), "700 2 0 4");
+    FerriteBoard sta = Bench.at(3000, Bench.STA + 3, 185, 11);
+    sta.setRegister(0, 66);
+    sta.step();
+    Check.is("STA over its own bytes", Bench.all(sta.pc(), sta.byteAt(3001), sta.codeAt(3000)), "3003 66 131");
+  }
+
   /** "PC becomes PC + n (n - 256, if n is 128 or more)", and where operandAt() says it goes. */
   private static void branches() {
     for (int code = 208; code <= 217; code++) {
@@ -384,6 +402,7 @@ public final class EdgesInstructionsTest {
     wordOfModeFive();
     instructionsInPorts();
     instructionsAcross();
+    instructionsOnTheStack();
     branches();
     branchFlags();
     flagsOnTheStack();

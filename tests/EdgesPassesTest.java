@@ -47,6 +47,33 @@ public final class EdgesPassesTest {
     Check.is("again at first", Bench.all(board.assemble(), board.valueOf(0), board.byteIn(0, 0), board.byteIn(5, 0)), "0 3072 6 0");
   }
 
+  private static String next(FerriteBoard board, String text) {
+    Check.type(board, text);
+    return board.assemble() + " at " + board.errorAt();
+  }
+
+  /** Names, .if and lines of one text are nothing to the next one, whether it had an error or not. */
+  private static void eachTextBeginsAnew() {
+    for (String first : new String[] {"b=1\nc=2\nd=3", "b=1\nc=2\nXYZ", "b=1\nc=2\nd=e", "b=1\nc=2\nLDA #256", "b=1\nc=2\n.if 1", "b=1\nc=2\n.org 1792\nNOP", "b=1\nc=2\n!"}) {
+      for (String then : new String[] {"a=b", "a=c", "a=1\nz=c"}) {
+        FerriteBoard board = new FerriteBoard();
+        next(board, first);
+        Check.is(then + " behind " + first, next(board, then), "4 at " + (then.length() - 1));
+      }
+      FerriteBoard board = new FerriteBoard();
+      next(board, first);
+      Check.is("in SECOND TIME behind " + first, next(board, "LDA c"), "4 at 4");
+      Check.is("defined once behind " + first, next(board, "b=5\nc=6\nd=7"), "0 at -1");
+      Check.is("their values", Bench.all(board.names(), board.valueOf(0), board.valueOf(1)), "3 5 6");
+      Check.is("no .if behind " + first, next(board, ".end"), "3 at 0");
+      next(board, ".if 0");
+      Check.is("no .if that is open", next(board, ".byte 7\n.if 1\n.end"), "0 at -1");
+      Check.is("nothing is left out", board.byteAt(3072), 7);
+      next(board, ".if 1\n.if 1\n.if 1\n.if 1\n");
+      Check.is("none of four", next(board, ".if 1\n.end"), "0 at -1");
+    }
+  }
+
   /** "A name in front of : or = is defined: error 3, at it, ahead of errors of the value, if it has been" */
   private static void definedTwice() {
     fails(3, "a:\n", "a:");
@@ -535,6 +562,7 @@ public final class EdgesPassesTest {
 
   public static void main(String[] args) {
     addressAndBank();
+    eachTextBeginsAnew();
     definedTwice();
     known();
     byZero();
