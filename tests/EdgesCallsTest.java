@@ -1,3 +1,5 @@
+import java.math.BigInteger;
+
 /** Promises 1 to 15 and 27 to 58, sentence by sentence, at the edges of what each call takes and tells. */
 public final class EdgesCallsTest {
   // the text
@@ -442,20 +444,24 @@ public final class EdgesCallsTest {
     Check.is("reset()", board.meanCycles(), 0.0);
   }
 
-  /** The checksum by the sentence of promise 58, from what the other calls tell. */
+  /** The checksum by the sentence of promise 58, from what the other calls tell, brought into 64 bits behind each number. */
   private static long digestOf(FerriteBoard board, int outputs) {
-    long d = 58008;
+    BigInteger d = BigInteger.valueOf(58008);
     int[] told = {board.a(), board.x(), board.s(), board.flags(), board.pc(), board.state(), board.cycles(), board.instructions(), board.bank(), board.mask(), board.pending(),
         board.count(), board.inputs(), board.outputs(), board.stopped(), board.history(), board.calls()};
-    for (int x : told) d = d * 31 + x;
-    for (int i = 0; i < board.calls(); i++) d = d * 31 + board.callAt(i);
-    d = d * 31 + board.names();
-    for (int i = 0; i < board.names(); i++) d = d * 31 + board.valueOf(i);
-    d = d * 31 + board.hottest();
-    d = d * 31 + board.codes();
-    for (int i = 0; i < 1792 + 8 * 1024 + 1024; i++) d = d * 31 + byteOfAll(i);
-    for (int i = 0; i < outputs; i++) d = d * 31 + board.outputAt(i);
-    return d;
+    for (int x : told) d = mixed(d, x);
+    for (int i = 0; i < board.calls(); i++) d = mixed(d, board.callAt(i));
+    d = mixed(d, board.names());
+    for (int i = 0; i < board.names(); i++) d = mixed(d, board.valueOf(i));
+    d = mixed(d, board.hottest());
+    d = mixed(d, board.codes());
+    for (int i = 0; i < 1792 + 8 * 1024 + 1024; i++) d = mixed(d, byteOfAll(i));
+    for (int i = 0; i < outputs; i++) d = mixed(d, board.outputAt(i));
+    return d.longValue();
+  }
+
+  private static BigInteger mixed(BigInteger d, int x) {
+    return d.multiply(BigInteger.valueOf(31)).add(BigInteger.valueOf(x)).mod(BigInteger.ONE.shiftLeft(64));
   }
 
   /** The few bytes that are not 0 in digest(), by their place among RAM, the banks and ROM. */
