@@ -1192,7 +1192,7 @@ public final class FerriteBoard {
     private int firstInput() {
       if (inputCount == 0 || input.length == 0) return 0;
       int first = input[0];
-      System.arraycopy(input, 1, input, 0, INPUTS_AT_MOST - 1);
+      for (int i = 1; i < input.length; i++) input[i - 1] = input[i];
       inputCount--;
       return first;
     }
